@@ -61,21 +61,18 @@ public final class PromiseTests {
         due("errorReason() of \"" + text + "\"", x.errorReason(), NOT_FOUND);
     }
 
-    /** All that can be asked of a play, in one text, to tell whether two states are the same. */
+    /** What tells the state of a play, in one text, with few calls: an object has 512 of them. */
     private static String portrait(RoleDoublingPlanner x) {
         StringBuilder b = new StringBuilder();
-        b.append(x.roleCount()).append('/').append(x.appearanceCount()).append('/')
-                .append(x.playLength());
-        for (int t = 0; t < x.playLength(); t++) {
+        int roles = x.roleCount();
+        int length = x.playLength();
+        b.append(roles).append('/').append(x.appearanceCount()).append('/').append(length);
+        for (int t = 0; t < length; t += 5) {
             b.append(' ').append(x.onStage(t));
         }
-        for (int s = 0; s < 10; s++) {
-            b.append(" s").append(x.rolesInScene(s));
-        }
-        for (int r = 0; r < 8; r++) {
-            b.append(" a").append(x.actorOf(r)).append(" m").append(x.rolesOf(r))
-                    .append(" t").append(x.tightestChange(r));
-            for (int q = 0; q < 8; q++) {
+        for (int r = 0; r < roles; r++) {
+            b.append(" a").append(x.actorOf(r));
+            for (int q = 0; q < r; q++) {
                 b.append(',').append(x.conflict(r, q)).append(':').append(x.slack(r, q));
             }
         }
@@ -213,8 +210,31 @@ public final class PromiseTests {
         malformed("enter 5 5 5 5", 0, 2);
         malformed("enter 5 5 5 5 5;", 0, 2);
         malformed("enter low 5 5 5;", 0, 2);
+        due("errorReason() alone", withText("scene 1;role bass").errorReason(), 1);
+        due("errorReason() alone", withText("scene 1;role low").errorReason(), 2);
         outOfRange();
         tooMany();
+        endOfText();
+    }
+
+    /** Nothing is read behind the end of the text, whatever stood there before. */
+    private static void endOfText() {
+        String[] texts = {"scene 1;", "scene 1", "scene ", "scene", "scen", ""};
+        int[] reasons = {NOT_FOUND, 2, 2, 2, 1, NOT_FOUND};
+        RoleDoublingPlanner x = new RoleDoublingPlanner();
+        for (int i = 0; i < texts.length; i++) {
+            type(x, texts[i]);
+            due("errorReason() of \"" + texts[i] + "\"", x.errorReason(), reasons[i]);
+            x.clearText();
+        }
+        // With this before it, a statement of seven signs ends where the text is full.
+        String before = times(9, "scene 9;") + "role low 0 0;" + times(20, "enter 0 0 0 9;")
+                + times(2, "role high 0 0;");
+        malformed(before + "role 6x", 393, 1);
+        malformed(before + "role lo", 393, 1);
+        malformed(before + "enter 0", 393, 2);
+        malformed(before + "scene 9", 393, 2);
+        malformed(before + "scene  ", 393, 2);
     }
 
     private static void outOfRange() {
@@ -445,6 +465,8 @@ public final class PromiseTests {
             due("roles without appearances", y.cast(r, 3), r + 1);
         }
         due("rolesOf(3)", y.rolesOf(3), 255);
+        due("tightestChange(3) of eight roles", y.tightestChange(3), NOT_FOUND);
+        due("setChangeTimes of the last of eight", y.setChangeTimes(7, 1, 1), 0);
     }
 
     private static void uncasting() {
@@ -484,27 +506,46 @@ public final class PromiseTests {
         due("actorOf(0)", x.actorOf(0), 7);
         due("actorOf(2)", x.actorOf(2), 0);
         due("actorOf(4)", x.actorOf(4), NOT_FOUND);
+        RoleDoublingPlanner y = eightOnStage();
+        due("adoptFirstCast() of eight", y.adoptFirstCast(), 8);
+        for (int r = 0; r < 8; r++) {
+            due("actorOf(" + r + ")", y.actorOf(r), r);
+        }
+    }
+
+    private static RoleDoublingPlanner eightOnStage() {
+        StringBuilder all = new StringBuilder("scene 9;" + times(8, "role low 0 0;"));
+        for (int r = 0; r < 8; r++) {
+            all.append("enter ").append(r).append(" 0 ").append(r).append(" 9;");
+        }
+        return playing(all.toString());
     }
 
     private static void undoing() {
         promise = 13;
         RoleDoublingPlanner x = new RoleDoublingPlanner();
         due("undo() of none", x.undo(), NOT_POSSIBLE);
-        String[] states = new String[8];
         for (int n = 0; n < 8; n++) {
-            states[n] = portrait(x);
             edit(x, n);
         }
         for (int left = 4; left >= 0; left--) {
             due("undo()", x.undo(), left);
-            same("state " + (left + 3), portrait(x), states[left + 3]);
+            same("the state before edit " + (left + 3), portrait(x), portraitAfter(left + 3));
         }
         due("undo() of the sixth", x.undo(), NOT_POSSIBLE);
-        same("the oldest state", portrait(x), states[3]);
+        same("the oldest state", portrait(x), portraitAfter(3));
         x.cast(1, 1);
         due("undo() of the edit after undo", x.undo(), 0);
-        same("the oldest state", portrait(x), states[3]);
+        same("the oldest state", portrait(x), portraitAfter(3));
         undoAndText();
+    }
+
+    private static String portraitAfter(int edits) {
+        RoleDoublingPlanner x = new RoleDoublingPlanner();
+        for (int n = 0; n < edits; n++) {
+            edit(x, n);
+        }
+        return portrait(x);
     }
 
     private static void edit(RoleDoublingPlanner x, int n) {
@@ -581,11 +622,11 @@ public final class PromiseTests {
                 playing("scene 9;role low 0 0;enter 0 0 0 5;enter 0 0 2 9;").peak(), 1);
         due("peak() of roles one after the other",
                 playing("scene 9;role low 0 0;role low 0 0;enter 1 0 5 9;enter 0 0 0 5;").peak(), 1);
-        StringBuilder all = new StringBuilder("scene 9;" + times(8, "role low 0 0;"));
-        for (int r = 0; r < 8; r++) {
-            all.append("enter ").append(r).append(" 0 ").append(r).append(" 9;");
-        }
-        due("peak() of all", playing(all.toString()).peak(), 8);
+        due("peak() of all", eightOnStage().peak(), 8);
+        due("peak() where the first appearance enters",
+                playing("scene 9;role low 0 0;role low 0 0;enter 0 0 4 9;enter 1 0 3 9;").peak(), 2);
+        due("peak() of 20 appearances",
+                playing("scene 9;role low 0 0;" + times(20, "enter 0 0 0 9;")).peak(), 1);
         promise = 19;
         RoleDoublingPlanner y = new RoleDoublingPlanner();
         due("rolesInScene(-1)", y.rolesInScene(-1), INVALID);
@@ -742,11 +783,7 @@ public final class PromiseTests {
         due("cliqueNumber() of a ring", playing(RING).cliqueNumber(), 2);
         due("cliqueNumber() of three voices",
                 playing("scene 1;role low 0 0;role child 0 0;role high 0 0;").cliqueNumber(), 3);
-        String all = "scene 9;" + times(8, "role low 0 0;");
-        for (int r = 0; r < 8; r++) {
-            all += "enter " + r + " 0 0 9;";
-        }
-        RoleDoublingPlanner full = playing(all);
+        RoleDoublingPlanner full = eightOnStage();
         due("cliqueNumber() of all", full.cliqueNumber(), 8);
         promise = 27;
         due("leastCast()", new RoleDoublingPlanner().leastCast(), 4);
@@ -767,6 +804,27 @@ public final class PromiseTests {
         due("greedyCast() of a ring", playing(RING).greedyCast(), 3);
         due("greedyCast() of all", full.greedyCast(), 8);
         due("greedyCast() of a crown", playing(CROWN).greedyCast(), 3);
+        askedAgain();
+    }
+
+    /** An answer does not depend on what was asked before, nor on an earlier play. */
+    private static void askedAgain() {
+        RoleDoublingPlanner x = playing(CROWN);
+        for (int i = 0; i < 2; i++) {
+            due("leastCast() again", x.leastCast(), 2);
+            due("greedyCast() again", x.greedyCast(), 3);
+            due("cliqueNumber() again", x.cliqueNumber(), 2);
+            due("firstCastActor(5) again", x.firstCastActor(5), 1);
+        }
+        RoleDoublingPlanner y = new RoleDoublingPlanner();
+        due("leastCast()", y.leastCast(), 4);
+        type(y, "scene 1;" + times(4, "role low 0 0;"));
+        due("configure()", y.configure(), 4);
+        due("leastCast() of the smaller play", y.leastCast(), 1);
+        due("greedyCast() of the smaller play", y.greedyCast(), 1);
+        due("cliqueNumber() of the smaller play", y.cliqueNumber(), 1);
+        due("conflictCount() of the smaller play", y.conflictCount(), 0);
+        due("rolesOf(0) of the smaller play", y.rolesOf(0), 0);
     }
 
     private static void firstActors(RoleDoublingPlanner x, int... actors) {
