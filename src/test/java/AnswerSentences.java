@@ -218,7 +218,7 @@ public final class AnswerSentences {
                 + "enter 0 0 0 9;enter 2 0 30 40;enter 3 0 90 99;enter 4 0 50 60;";
         holds("Returns the least slack of two roles of an actor.", x -> x.play(row).calls("cast(0, 7) = 1; cast(3, 7) = 2;"
                 + "tightestChange(7) = 78; cast(2, 7) = 3; tightestChange(7) = 18; cast(4, 6) = 1; tightestChange(7) = 18;"
-                + "cast(4, 7) = 4; tightestChange(7) = 7; uncast(4) = 7; tightestChange(7) = 18"));
+                + "tightestChange(6) = NOT_FOUND; cast(4, 7) = 4; tightestChange(7) = 7; uncast(4) = 7; tightestChange(7) = 18"));
         holds("- `actor`: 0 to 7", x -> x.play(row).calls("cast(0, 0) = 1; cast(2, 0) = 2; cast(3, 7) = 1; cast(4, 7) = 2;"
                 + "tightestChange(0) = 18; tightestChange(7) = 27; tightestChange(8) = INVALID_ARGUMENT;"
                 + "tightestChange(-1) = INVALID_ARGUMENT"));
@@ -363,7 +363,7 @@ public final class AnswerSentences {
     }
 
     public static void main(String[] args) {
-        Sentences.only(args.length == 0 ? "" : args[0]);
+        Sentences.choose(args);
         counts();
         onStage();
         peak();

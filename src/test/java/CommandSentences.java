@@ -27,6 +27,10 @@ public final class CommandSentences {
             Sentences.due("the new play", x.playSeen(), configured.playSeen());
             x.calls("undo() = NOT_POSSIBLE; clearText() = 0; firstError() = NOT_FOUND;"
                     + "configure() = NOT_POSSIBLE; append(97) = 1");
+            for (int time = 0; time < 90; time++) {
+                String call = "onStage(" + time + ")";
+                x.due(call, configured.ask(call));
+            }
             // The appearances stand in the order of the text.
             for (int left = 8; left >= 0; left--) {
                 x.due("removeAppearance(0)", left);
@@ -368,7 +372,7 @@ public final class CommandSentences {
     }
 
     public static void main(String[] args) {
-        Sentences.only(args.length == 0 ? "" : args[0]);
+        Sentences.choose(args);
         newObject();
         append();
         clearText();

@@ -48,6 +48,21 @@ public final class DescriptionSentences {
         Sentences.due("the state after " + refused, with.allSeen(), without.type(text).allSeen());
     }
 
+    private static void callsOfAnObject() {
+        Sentences.namesNoAnswer("A planner for doubling roles in a play: appearances of roles on stage, conflicts "
+                + "between roles by voice, by overlap and by quick changes, casting by hand, and the least cast, found "
+                + "by exact graph coloring.");
+        holds("An object is used for at most 512 calls after it has been made; what later calls answer is free.", x -> {
+            while (x.callsMade() < 504) {
+                x.calls("adoptFirstCast() = 4; removeAppearance(0) = 8; append(97) = 1; undo() = 1; clearText() = 1;"
+                        + "undo() = 0; cast(0, 7) = 1; undo() = 0; leastCast() = 4");
+            }
+            x.calls("cast(0, 3) = 1; actorOf(0) = 3; leastCast() = 4; append(97) = 1; undo() = 0;"
+                    + "cast(0, 5) = 1; undo() = 0; cast(4, 7) = 1");
+            Sentences.due("the calls made", x.callsMade(), 512);
+        });
+    }
+
     private static void errorCodes() {
         Sentences.namesNoAnswer("All times are whole numbers of lines.");
         holds("When several error codes apply to a call, the first one named at that method's return "
@@ -234,7 +249,8 @@ public final class DescriptionSentences {
                     + "conflict(0, 1) = NO_CONFLICT; addAppearance(1, 0, 4, 6) = 4; conflict(1, 0) = OVERLAP;"
                     + "undo() = 2; addAppearance(1, 0, 7, 8) = 4; conflict(0, 1) = OVERLAP;"
                     + "undo() = 2; addAppearance(1, 0, 0, 20) = 4; conflict(1, 0) = OVERLAP;"
-                    + "undo() = 2; addAppearance(1, 0, 5, 10) = 4; conflict(0, 1) = OVERLAP");
+                    + "undo() = 2; addAppearance(1, 0, 5, 10) = 4; conflict(0, 1) = OVERLAP;"
+                    + "addAppearance(1, 0, 18, 19) = 5; conflict(0, 1) = OVERLAP");
             new Run().play("scene 5;scene 5;role low 0 0;role low 0 0;enter 0 0 0 5;enter 1 1 0 5;").calls(
                     "conflict(0, 1) = NO_CONFLICT; addAppearance(0, 1, 4, 5) = 3; conflict(0, 1) = OVERLAP");
         });
@@ -245,6 +261,8 @@ public final class DescriptionSentences {
                     "conflict(0, 1) = NO_CONFLICT; setChangeTimes(0, 1, 0) = 0; conflict(0, 1) = CHANGE;"
                     + "setChangeTimes(0, 0, 0) = 0; setChangeTimes(1, 0, 1) = 0; conflict(1, 0) = CHANGE;"
                     + "setChangeTimes(1, 60, 0) = 0; setChangeTimes(0, 0, 60) = 0; conflict(0, 1) = NO_CONFLICT");
+            new Run().play("scene 50;role low 1 0;role low 0 0;enter 1 0 10 11;enter 0 0 0 10;").calls(
+                    "conflict(0, 1) = CHANGE; setChangeTimes(0, 0, 0) = 0; conflict(0, 1) = NO_CONFLICT");
             new Run().play("scene 50;role low 3 0;role low 0 4;enter 1 0 17 18;enter 0 0 0 10;").calls(
                     "conflict(0, 1) = NO_CONFLICT; setChangeTimes(0, 4, 0) = 0; conflict(0, 1) = CHANGE;"
                     + "undo() = 0; setChangeTimes(1, 0, 5) = 0; conflict(0, 1) = CHANGE; undo() = 0;"
@@ -394,6 +412,8 @@ public final class DescriptionSentences {
             malformed("scene 1;scene 1", 8, "BAD_NUMBER");
             malformed("scene 1 role low 0 0;", 0, "BAD_NUMBER");
             malformed("scene 1;;", 8, "UNKNOWN_WORD");
+            malformed("scene 1;;scene 1;", 8, "UNKNOWN_WORD");
+            malformed(";scene 1;", 0, "UNKNOWN_WORD");
             malformed(" scene 1;", 0, "UNKNOWN_WORD");
         });
         holds("A word is the longest sequence of characters other than blanks and semicolons that starts at its "
@@ -414,8 +434,8 @@ public final class DescriptionSentences {
             malformed("scene ", 0, "BAD_NUMBER");
             malformed("scene  ", 0, "BAD_NUMBER");
             // The end of the text counts, not the signs that stood behind it once.
-            x.type("scene 12;").calls("clearText() = 9").type("scene 1").calls("errorReason() = BAD_NUMBER;"
-                    + "clearText() = 7").type("scene ").calls("errorReason() = BAD_NUMBER; clearText() = 6")
+            x.type("scene 12;").calls("clearText() = 9").type("scene 12").calls("errorReason() = BAD_NUMBER;"
+                    + "clearText() = 8").type("scene ").calls("errorReason() = BAD_NUMBER; clearText() = 6")
                     .type("scen").calls("errorReason() = UNKNOWN_WORD");
         });
         holds("A number is a word of one to three decimal digits; leading zeros are allowed.", x -> {
@@ -508,11 +528,12 @@ public final class DescriptionSentences {
                 + "greater than the length of the scene) and after that for TOO_MANY (there would be more than 10 "
                 + "scenes, 8 roles or 20 appearances).", x -> completeStatements());
         holds("A statement is malformed if one of these reasons applies.", x -> {
-            malformed("scenery 1;", 0, "UNKNOWN_WORD");
-            malformed("scene 1x;", 0, "BAD_NUMBER");
-            malformed("scene 100;", 0, "OUT_OF_RANGE");
-            malformed("scene 1;".repeat(11), 80, "TOO_MANY");
-            wellFormed("scene 1;".repeat(10));
+            String before = "role low 0 0;" + "scene 1;".repeat(9);
+            malformed(before + "scenery 1;", 85, "UNKNOWN_WORD");
+            malformed(before + "scene 1x;", 85, "BAD_NUMBER");
+            malformed(before + "scene 100;", 85, "OUT_OF_RANGE");
+            malformed(before + "scene 1;scene 1;", 93, "TOO_MANY");
+            wellFormed(before + "scene 1;");
         });
     }
 
@@ -641,7 +662,9 @@ public final class DescriptionSentences {
     }
 
     public static void main(String[] args) {
-        Sentences.only(args.length == 0 ? "" : args[0]);
+        Sentences.choose(args);
+        Sentences.under("What it is");
+        callsOfAnObject();
         Sentences.under("Description");
         errorCodes();
         scenes();

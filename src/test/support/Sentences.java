@@ -30,9 +30,12 @@ final class Sentences {
     private Sentences() {
     }
 
-    /** Lets only the tests run whose heading and sentence hold these words. */
-    static void only(String words) {
-        onlyThis = words;
+    /**
+     * Lets only the tests run of which heading and sentence start with the first argument, where $
+     * stands for their end; a question mark lets none run and tells all of them.
+     */
+    static void choose(String[] arguments) {
+        onlyThis = arguments.length == 0 ? "" : arguments[0];
     }
 
     /** The tests that follow hold sentences under this heading of the document. */
@@ -47,7 +50,7 @@ final class Sentences {
         if (!HELD.add(named())) {
             wrong("has two tests");
         }
-        if (named().contains(onlyThis)) {
+        if (isChosen()) {
             test.on(new Run());
         }
     }
@@ -56,6 +59,13 @@ final class Sentences {
     static void namesNoAnswer(String words) {
         sentence = words;
         HELD.add(named());
+    }
+
+    private static boolean isChosen() {
+        if (onlyThis.equals("?")) {
+            System.out.println("? " + named());
+        }
+        return (named() + "$").startsWith(onlyThis);
     }
 
     private static String named() {
@@ -159,7 +169,7 @@ final class Sentences {
         while (one.find()) {
             found++;
             sentence = "Example " + one.group(1) + ": " + one.group(2);
-            if (named().contains(onlyThis)) {
+            if (isChosen()) {
                 new Run().calls(one.group(3));
             }
         }
