@@ -27,6 +27,8 @@ public final class FaceTests {
             + "CAPACITY_EXCEEDED=-1003 NOT_FOUND=-1004 LOW=0 HIGH=1 CHILD=2 NO_CONFLICT=0 VOICE=1 "
             + "OVERLAP=2 CHANGE=3 UNKNOWN_WORD=1 BAD_NUMBER=2 OUT_OF_RANGE=3 TOO_MANY=4";
 
+    private static final Path DOCUMENT = Path.of("../shared/DOC.md");
+
     private static int wrong;
 
     private static void due(String what, Object got, Object want) {
@@ -68,6 +70,53 @@ public final class FaceTests {
         due("the constants", constants, new TreeSet<>(List.of(CONSTANTS.split(" "))));
     }
 
+    /** The lists above are the face that the document writes out, no more and no less. */
+    private static void faceOfTheDocument() throws IOException {
+        String face = Files.readString(DOCUMENT).split("```")[1];
+        Set<String> methods = new TreeSet<>();
+        Matcher method = Pattern.compile("public int (\\w+)\\(([^)]*)\\);").matcher(face);
+        while (method.find()) {
+            methods.add(method.group(1) + "(" + method.group(2).replaceAll("int \\w+", "int").replace(" ", "") + ")");
+        }
+        due("the document's methods", methods, new TreeSet<>(List.of(METHODS.split(" "))));
+        Set<String> constants = new TreeSet<>();
+        Matcher constant = Pattern.compile("(\\w+) = (-?\\d+)").matcher(face);
+        while (constant.find()) {
+            constants.add(constant.group(1) + "=" + constant.group(2));
+        }
+        due("the document's constants", constants, new TreeSet<>(List.of(CONSTANTS.split(" "))));
+    }
+
+    /** The methods and constructors of the source, each as its lines, the head first. */
+    private static List<List<String>> methodsOf(String code) {
+        Pattern head = Pattern.compile("( {4}| {8})(?! |for|if|while|switch)[\\w\\[\\] ]+\\([^)]*\\) \\{");
+        List<List<String>> methods = new ArrayList<>();
+        String end = "";
+        for (String line : code.split("\n")) {
+            Matcher starts = head.matcher(line);
+            if (end.isEmpty() && starts.matches()) {
+                methods.add(new ArrayList<>());
+                end = starts.group(1) + "}";
+            }
+            if (!end.isEmpty()) {
+                methods.get(methods.size() - 1).add(line);
+            }
+            if (line.equals(end)) {
+                end = "";
+            }
+        }
+        return methods;
+    }
+
+    /** Objects are made in constructors and fields alone, so that calls need no room of their own. */
+    private static void noCallMakesObjects(List<String> method) {
+        boolean isConstructor = method.get(0).matches(" *(public )?[A-Z]\\w*\\(.*");
+        for (String line : method) {
+            boolean makes = line.matches(".*(\\bnew\\b|\\.clone\\(|copyOf|= \\{).*");
+            due("an object made in" + method.get(0), makes && !isConstructor, false);
+        }
+    }
+
     private static void classesInside() {
         List<Class<?>> all = new ArrayList<>(List.of(RoleDoublingPlanner.class.getDeclaredClasses()));
         due("at most eleven classes inside", all.size() <= 11, true);
@@ -86,6 +135,9 @@ public final class FaceTests {
             }
         }
         for (Class<?> c : RoleDoublingPlanner.class.getDeclaredClasses()) {
+            for (Method m : c.getDeclaredMethods()) {
+                due(m + " bears a public name", (" " + METHODS).contains(" " + m.getName() + "("), false);
+            }
             due(c + " is static", Modifier.isStatic(c.getModifiers()), true);
             due(c + " is public or protected",
                     (c.getModifiers() & (Modifier.PUBLIC | Modifier.PROTECTED)) != 0, false);
@@ -114,27 +166,18 @@ public final class FaceTests {
         due("signs beyond 127", code.chars().anyMatch(c -> c > 127), false);
     }
 
-    private static void shortMethods(String code) {
-        int start = 0;
-        int line = 0;
-        for (String text : code.split("\n")) {
-            line++;
-            if (text.matches(" {4}(    )?\\w.*\\{") && !text.contains(" class ")) {
-                start = line;
-            }
-            if (text.matches(" {4}(    )?\\}") && start > 0) {
-                due("the method at line " + start + " is short", line - start <= 60, true);
-                start = 0;
-            }
-        }
-    }
-
     public static void main(String[] args) throws IOException, IllegalAccessException {
         publicFace();
+        faceOfTheDocument();
         classesInside();
         String code = withoutComments(Files.readString(SOURCE));
         forbiddenWords(code);
-        shortMethods(code);
+        List<List<String>> methods = methodsOf(code);
+        due("the methods are found", methods.size() > METHODS.split(" ").length, true);
+        for (List<String> method : methods) {
+            due(method.get(0) + " is short", method.size() <= 60, true);
+            noCallMakesObjects(method);
+        }
         System.out.println(wrong == 0 ? "all answers are as due" : wrong + " answers are not as due");
         if (wrong != 0) {
             System.exit(1);

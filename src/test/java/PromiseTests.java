@@ -537,7 +537,24 @@ public final class PromiseTests {
         x.cast(1, 1);
         due("undo() of the edit after undo", x.undo(), 0);
         same("the oldest state", portrait(x), portraitAfter(3));
+        editsBeyondTheFifth();
         undoAndText();
+    }
+
+    /** An edit that is out of reach stays so, also when newer ones are undone and made again. */
+    private static void editsBeyondTheFifth() {
+        RoleDoublingPlanner x = new RoleDoublingPlanner();
+        for (int n = 0; n < 7; n++) {
+            edit(x, n);
+        }
+        due("undo() of edit 6", x.undo(), 4);
+        due("undo() of edit 5", x.undo(), 3);
+        due("an edit after two are undone", x.cast(1, 5), 1);
+        for (int left = 3; left >= 0; left--) {
+            due("undo()", x.undo(), left);
+            same("the state before edit " + (left + 2), portrait(x), portraitAfter(left + 2));
+        }
+        due("undo() of an edit out of reach", x.undo(), NOT_POSSIBLE);
     }
 
     private static String portraitAfter(int edits) {
